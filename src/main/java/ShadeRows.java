@@ -114,12 +114,7 @@ public final class ShadeRows {
         if (shadeCount < 0 || shadeCount >= shades.length) {
             return 0;
         }
-        Shade made = null;
-        if (isRamp(kind, a, b, c, d, e, f)) {
-            made = rampOf(kind, a, b, c, d, e, f);
-        } else if (isMesh(kind, a)) {
-            made = meshOf(kind, a);
-        }
+        Shade made = kind <= CIRCLES ? rampOf(kind, a, b, c, d, e, f) : meshOf(kind, a);
         if (made == null) {
             return 0;
         }
@@ -275,8 +270,9 @@ public final class ShadeRows {
         return isGood(d) && isGood(e) && isGood(f) && c >= 0.0 && f >= 0.0 && unlike;
     }
 
+    /** As curveOf(..). */
     private Shade rampOf(int kind, double a, double b, double c, double d, double e, double f) {
-        if (curveCount < BANDS) {
+        if (curveCount < BANDS || !isRamp(kind, a, b, c, d, e, f)) {
             return null;
         }
         Ramp ramp = new Ramp(kind, a, b, c, d, e, f);
@@ -286,27 +282,15 @@ public final class ShadeRows {
         return ramp;
     }
 
-    private static boolean isMesh(int kind, double a) {
-        switch (kind) {
-            case FREE:
-                return true;
-            case LATTICE:
-                return isWhole(a, 2, MOST_COLUMNS);
-            case PATCH:
-                return isWhole(a, 1, MOST_CUTS);
-            default:
-                return false;
-        }
-    }
-
+    /** As curveOf(..). */
     private static Shade meshOf(int kind, double a) {
         switch (kind) {
             case FREE:
                 return new Mesh(0);
             case LATTICE:
-                return new Mesh((int) a);
+                return isWhole(a, 2, MOST_COLUMNS) ? new Mesh((int) a) : null;
             case PATCH:
-                return new Patch((int) a);
+                return isWhole(a, 1, MOST_CUTS) ? new Patch((int) a) : null;
             default:
                 return null;
         }
@@ -728,24 +712,34 @@ public final class ShadeRows {
             return count;
         }
 
-        @Override
-        int triangles() {
-            return columns == 0 ? count / 3 : latticeTriangles(columns, count / columns);
+        /** How many rows of a lattice are full. */
+        int rows() {
+            return columns == 0 ? 0 : count / columns;
         }
 
-        static int latticeTriangles(int columns, int rows) {
+        void load(int band, Corners corners) {
+            for (int i = 0; i < count && i < MOST_VERTICES; i++) {
+                corners.put(i, xs[i], ys[i], tone(i, band));
+            }
+        }
+
+        @Override
+        int triangles() {
+            if (columns == 0) {
+                return count / 3;
+            }
+            int rows = rows();
             return rows < 2 ? 0 : 2 * (rows - 1) * (columns - 1);
         }
 
         @Override
         int bandAt(double x, double y, int band, Stack stack, Corners corners) {
-            for (int i = 0; i < count && i < MOST_VERTICES; i++) {
-                corners.put(i, xs[i], ys[i], tone(i, band));
-            }
+            load(band, corners);
             return corners.lastPaint(triangles(), columns, x, y);
         }
     }
 
+    /** A lattice whose places and colours are reckoned from points, and from the first vertices' colours. */
     private static final class Patch extends Mesh {
         private final int cuts;
         private final double[] pointXs = new double[PATCH_POINTS];
@@ -767,22 +761,21 @@ public final class ShadeRows {
         }
 
         @Override
-        int triangles() {
-            return vertices() < PATCH_CORNERS ? 0 : latticeTriangles(cuts + 1, cuts + 1);
+        int rows() {
+            return vertices() < PATCH_CORNERS ? 0 : cuts + 1;
         }
 
         @Override
-        int bandAt(double x, double y, int band, Stack stack, Corners corners) {
-            if (triangles() == 0) {
-                return NOT_PAINTED;
+        void load(int band, Corners corners) {
+            double whole = cuts;
+            if (whole < 1.0) {
+                return;
             }
-            double across = cuts;
             for (int j = 0; j <= cuts; j++) {
                 for (int i = 0; i <= cuts; i++) {
-                    putPlace(j * (cuts + 1) + i, i / across, j / across, band, corners);
+                    putPlace(j * (cuts + 1) + i, i / whole, j / whole, band, corners);
                 }
             }
-            return corners.lastPaint(triangles(), cuts + 1, x, y);
         }
 
         private void putPlace(int index, double u, double v, int band, Corners corners) {

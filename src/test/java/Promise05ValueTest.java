@@ -80,9 +80,23 @@ public final class Promise05ValueTest {
         check.same("stitched of stitched, first's second", x.value(6, 0.3125), 15.0);
         check.same("stitched of stitched, second", x.value(6, 0.75), 0.5);
         check.same("stitched of stitched, end", x.value(6, 1.0), 10.0);
+        stitchedTexts(check);
         x.function(2, 1.0, 2.0, 0.7, 0.0);
         check.same("first, as it is written", x.value(7, 0.3), 0.0 + 0.3 / 0.7 * 1.0);
         check.same("second, as it is written", x.value(7, 0.8), 10.0 + (0.8 - 0.7) / (1.0 - 0.7) * 10.0);
+    }
+
+    /** A text does not cut its number, so that it shows what it is given. */
+    private static void stitchedTexts(Check check) {
+        ShadeRows x = new ShadeRows();
+        x.function(3, 0.0, 0.0, 0.0, 0.0);
+        x.function(2, 1.0, 1.0, 0.5, 0.0);
+        check.same("below, given", x.value(2, -5.0), 0.0);
+        check.same("first, given", x.value(2, 0.25), 0.5);
+        check.same("second, given", x.value(2, 0.75), 0.5);
+        check.same("above, given", x.value(2, 5.0), 1.0);
+        x.function(2, 1.0, 1.0, 1.0, 0.0);
+        check.same("bound 1.0, given", x.value(3, 1.0), 0.0);
     }
 
     private static void longestChain(Check check) {
@@ -111,6 +125,8 @@ public final class Promise05ValueTest {
         x = new ShadeRows();
         step(check, x, "5 and 6", 3.0, 3.0, 5, 0.0, 6, 0.0);
         check.same("5 and 6, above", x.value(1, -4.0), 4.0);
+        check.same("5 and 6, little", x.value(1, 0.125), 0.125);
+        check.same("5 and 6, little below", x.value(1, -0.125), 0.125);
         x = new ShadeRows();
         step(check, x, "6 and 5", -3.0, 3.0, 6, 0.0, 5, 0.0);
         check.same("6 and 5, below", x.value(1, -4.0), -4.0);

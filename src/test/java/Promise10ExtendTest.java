@@ -6,6 +6,7 @@ public final class Promise10ExtendTest {
         answers(check);
         ends(check, 2, "line");
         ends(check, 3, "circles");
+        asEnds(check);
         check.end();
     }
 
@@ -42,6 +43,25 @@ public final class Promise10ExtendTest {
         due(check, x, what + ", at both", begin, end);
         x.extend(1, false, false);
         due(check, x, what + ", no more", no, no);
+    }
+
+    /** A text, t / 4.0 + 0.5, shows that t is painted as 0.0 and as 1.0, and not as it is. */
+    private static void asEnds(Check check) {
+        ShadeRows x = new ShadeRows();
+        for (int i = 0; i < 3; i++) {
+            x.text(0, 4.0);
+            x.text(4, 0.0);
+            x.text(0, 0.5);
+            x.text(1, 0.0);
+            x.function(3, 0.0, 0.0, 0.0, 0.0);
+        }
+        x.shading(2, 0.0, 0.5, 10.0, 0.5, 0.0, 0.0);
+        x.shading(3, 0.0, 0.5, 2.0, 10.0, 0.5, 2.0);
+        for (int n = 1; n <= 2; n++) {
+            x.extend(n, true, true);
+            check.same("painted as 0.0", Fixtures.bands(x, n, -7, 0), "128 128 128");
+            check.same("painted as 1.0", Fixtures.bands(x, n, 15, 0), "191 191 191");
+        }
     }
 
     private static void due(Check check, ShadeRows x, String what, String before, String behind) {

@@ -10,6 +10,8 @@ public final class Promise12CirclesTest {
         cone(check);
         touching(check);
         nearlyTheSame(check);
+        aslant(check);
+        top(check);
         check.end();
     }
 
@@ -116,6 +118,34 @@ public final class Promise12CirclesTest {
         due(check, z, 0, 0, END);
         z.extend(1, true, false);
         due(check, z, 0, 0, BEGIN);
+    }
+
+    private static void aslant(Check check) {
+        ShadeRows x = circles(1.0, 2.0, 1.5, 7.0, 10.0, 3.0);
+        due(check, x, 0, 1, "24 231 2");
+        due(check, x, 1, 2, "66 189 17");
+        due(check, x, 4, 6, "216 39 183");
+        due(check, x, 3, 8, "224 31 197");
+        due(check, x, 6, 4, NO);
+        due(check, x, 7, 10, "204 51 163");
+        due(check, x, 8, 11, "235 20 217");
+        due(check, x, 9, 11, "253 2 251");
+        due(check, x, -2, 2, NO);
+        due(check, x, 0, 6, NO);
+        due(check, x, 11, 6, NO);
+        x.extend(1, true, true);
+        due(check, x, -2, -1, BEGIN);
+        due(check, x, 0, 0, BEGIN);
+        due(check, x, 12, 16, END);
+        due(check, x, 4, 6, "216 39 183");
+        due(check, x, 0, 6, NO);
+    }
+
+    /** The radius is 0.0 at the very top, which is not below 0.0. */
+    private static void top(Check check) {
+        ShadeRows x = circles(0.5, 0.5, 400.0, 800.5, 0.5, 0.0);
+        due(check, x, 800, 0, END);
+        due(check, x, 801, 0, NO);
     }
 
     private static void due(Check check, ShadeRows x, int px, int py, String due) {

@@ -9,6 +9,7 @@ public final class Promise12TrianglesTest {
         lattice(check);
         patches(check);
         bent(check);
+        farBent(check);
         check.end();
     }
 
@@ -99,6 +100,19 @@ public final class Promise12TrianglesTest {
         check.same("a third row", x.pieces(1), 8);
         check.same("is painted", x.point(1, 0, 4, 0) >= 0 ? 1 : 0, 1);
         lastOfLattice(check);
+        folded(check);
+    }
+
+    /** The lower right is above the upper left's far edge, so that both triangles of the cell paint (3, 3). */
+    private static void folded(Check check) {
+        ShadeRows x = new ShadeRows();
+        Fixtures.mesh(x, 5, 2.0);
+        x.vertex(1, 0.0, 0.0, 10);
+        x.vertex(1, 8.0, 0.0, 10);
+        x.vertex(1, 0.0, 8.0, 10);
+        x.vertex(1, 2.0, 2.0, 210);
+        due(check, x, 1, 0, 0, "10 0 0");
+        due(check, x, 1, 3, 3, "60 0 0");
     }
 
     /** All rows but one lie on each other, so that the order of the triangles shows. */
@@ -165,6 +179,34 @@ public final class Promise12TrianglesTest {
         due(check, x, patch, -1, 3, NO);
         due(check, x, patch, 1, 8, "146 130 114");
         due(check, x, patch, 0, 8, NO);
+    }
+
+    /** No point is at 0.0 here, and all are moved. */
+    private static void farBent(Check check) {
+        ShadeRows x = new ShadeRows();
+        int patch = Fixtures.mesh(x, 6, 4.0);
+        double[][] points = {
+            {102.0, -51.0}, {107.5, -54.0}, {110.0, -45.25}, {117.0, -50.0}, {121.0, -44.5}, {113.0, -41.0},
+            {118.0, -35.0}, {111.0, -31.0}, {106.25, -38.0}, {101.0, -34.0}, {97.0, -39.0}, {105.0, -46.0}};
+        for (int i = 0; i < 12; i++) {
+            x.patch(patch, i, points[i][0], points[i][1]);
+        }
+        Fixtures.colours(x, patch, 0x0a5aff, 0xc80f1e, 0x32ff50, 0xfa8c00);
+        due(check, x, patch, 102, -51, "240 90 24");
+        due(check, x, patch, 103, -50, "210 89 51");
+        due(check, x, patch, 106, -47, "140 100 103");
+        due(check, x, patch, 116, -50, "37 22 193");
+        due(check, x, patch, 117, -47, "45 68 165");
+        due(check, x, patch, 116, -36, "73 236 69");
+        due(check, x, patch, 110, -43, "84 118 129");
+        due(check, x, patch, 112, -39, "65 171 115");
+        due(check, x, patch, 102, -37, "31 144 207");
+        due(check, x, patch, 101, -40, "75 127 172");
+        due(check, x, patch, 100, -42, NO);
+        due(check, x, patch, 105, -34, NO);
+        due(check, x, patch, 113, -34, NO);
+        due(check, x, patch, 107, -52, NO);
+        due(check, x, patch, 112, -47, "88 64 141");
     }
 
     private static void due(Check check, ShadeRows x, int shading, int px, int py, String due) {
