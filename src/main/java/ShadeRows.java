@@ -270,7 +270,7 @@ public final class ShadeRows {
         return isGood(d) && isGood(e) && isGood(f) && c >= 0.0 && f >= 0.0 && unlike;
     }
 
-    /** As curveOf(..). */
+    /** A new shading of kinds 1 to 3, or null as of curveOf. */
     private Shade rampOf(int kind, double a, double b, double c, double d, double e, double f) {
         if (curveCount < BANDS || !isRamp(kind, a, b, c, d, e, f)) {
             return null;
@@ -282,7 +282,7 @@ public final class ShadeRows {
         return ramp;
     }
 
-    /** As curveOf(..). */
+    /** A new shading of kinds 4 to 6, or null as of curveOf. */
     private static Shade meshOf(int kind, double a) {
         switch (kind) {
             case FREE:
@@ -325,7 +325,7 @@ public final class ShadeRows {
         return r;
     }
 
-    /** The numbers of a text meanwhile and the first error of a value: one for all values, so that they make nothing. */
+    /** A text's numbers meanwhile and a value's first error: one for all values, so that they make nothing. */
     private static final class Stack {
         private final double[] numbers = new double[MOST_STACKED];
         private int depth;
@@ -670,7 +670,7 @@ public final class ShadeRows {
             return t >= 0.0 ? t : counted(one >= other ? other : one, dr);
         }
 
-        /** As painted(t), where t counts. Without dr the radius stays c; t, if it is endless, must not meet that 0.0. */
+        /** As painted(t), where t counts. Without dr the radius stays c, and an endless t must not meet that 0.0. */
         private double counted(double t, double dr) {
             if (dr != 0.0 && c + t * dr < 0.0) {
                 return NOT_PAINTED;
@@ -855,7 +855,7 @@ public final class ShadeRows {
             double down = y - ys[three];
             double p = (downQ * across + acrossQ * down) / den;
             double q = ((ys[three] - ys[one]) * across + acrossP * down) / den;
-            // Before r: p and q of a very thin triangle may be endless, and r no number if only one is below 0.0.
+            // Before r: both may be endless in a very thin triangle, and r no number if one of them is below 0.0.
             if (p < 0.0 || q < 0.0) {
                 return NOT_PAINTED;
             }

@@ -72,7 +72,8 @@ public final class FaceTest {
 
     private static void source(Check check) throws IOException {
         String source = Files.readString(Path.of("src/main/java/ShadeRows.java"));
-        for (String word : new String[] {"catch", "try {", "finally", "->", "::", "synchronized", "assert", "package "}) {
+        String[] words = {"catch", "try {", "finally", "->", "::", "synchronized", "assert", "package "};
+        for (String word : words) {
             check.same("the source holds '" + word + "'", source.contains(word) ? 1 : 0, 0);
         }
         long imports = source.lines().filter(line -> line.startsWith("import ")).count();
