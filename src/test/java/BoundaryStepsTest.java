@@ -38,6 +38,11 @@ public final class BoundaryStepsTest {
         check.same("a step that needs one", Fixtures.text(x, 5, 0.0), 2);
         due(check, x, 2, 3.0, -3.0, 0);
         due(check, x, 2, 3.0, -3.0, 0);
+        for (int i = 1; i <= 14; i++) {
+            x.text(i <= 7 ? 0 : 1, i);
+        }
+        check.same("there is room for seven more", x.function(3, 0.0, 0.0, 0.0, 0.0), 3);
+        due(check, x, 3, 100.0, 128.0, 0);
     }
 
     /** t and seven more, each seen by what the sums make of them. */
@@ -163,38 +168,32 @@ public final class BoundaryStepsTest {
         due(check, x, 2, -9.0, 7.0, 4);
     }
 
-    /** Each step once where there is just enough for it, and once where there is one too few. */
+    /** Each step where there is just enough for it, and where there are too few, though one would be left. */
     private static void takes(Check check) {
         int[] needs = {0, 2, 2, 2, 2, 1, 1, 1, 2, 1, 2, 3, 1, 1};
-        int[] leaves = {1, 1, 1, 1, 1, 1, 1, 2, 2, 0, 1, 1, 1, 1};
+        int[] adds = {1, -1, -1, -1, -1, 0, 0, 1, 0, -1, -1, -2, 0, 0};
         for (int op = 0; op <= 13; op++) {
-            check.same("step " + op + " on " + needs[op], around(op, needs[op], leaves[op]), 1);
-            if (needs[op] > 0) {
-                check.same("step " + op + " on " + (needs[op] - 1), around(op, needs[op] - 1, leaves[op]), 0);
-                check.same("step " + op + " on none", around(op, 0, leaves[op]), 0);
+            for (int finds = 0; finds <= needs[op]; finds++) {
+                ShadeRows x = new ShadeRows();
+                bring(x, 1, finds);
+                x.text(op, 1.0);
+                bring(x, finds + adds[op], 1);
+                check.same("step " + op + " on " + finds, x.function(3, 0.0, 0.0, 0.0, 0.0),
+                        finds < needs[op] ? 0 : 1);
             }
         }
         ShadeRows x = new ShadeRows();
-        check.same("too few in between, though one is left", Fixtures.text(x, 9, 0.0, 9, 0.0, 0, 1.0, 0, 1.0), 0);
+        check.same("too few in between", Fixtures.text(x, 9, 0.0, 9, 0.0, 0, 1.0, 0, 1.0), 0);
     }
 
-    /** A text that has a step find so many numbers, and brings what it should leave to one. */
-    private static int around(int op, int finds, int leaves) {
-        ShadeRows x = new ShadeRows();
-        if (finds == 0) {
+    /** Steps that drop or put numbers, until there are as many as wanted. */
+    private static void bring(ShadeRows x, int from, int to) {
+        for (int i = from; i > to; i--) {
             x.text(9, 0.0);
         }
-        for (int i = 1; i < finds; i++) {
+        for (int i = from; i < to; i++) {
             x.text(0, 1.0);
         }
-        x.text(op, 1.0);
-        if (leaves == 0) {
-            x.text(0, 1.0);
-        }
-        for (int i = 1; i < leaves; i++) {
-            x.text(9, 0.0);
-        }
-        return x.function(3, 0.0, 0.0, 0.0, 0.0);
     }
 
     /** Step 0 and step 7 can make a ninth; all others find room where there are eight. */

@@ -95,8 +95,12 @@ public final class BoundaryTrianglesTest {
         Fixtures.mesh(x, 5, 2.0);
         Fixtures.vertices(x, 2, 9, 0.0, 0.0, 8.0, 0.0, 0.0, 8.0, 8.0, 8.0);
         check.same("pieces of one cell", x.pieces(2), 2);
+        Fixtures.vertices(x, 2, 9, 0.0, 16.0, 8.0, 16.0);
+        check.same("pieces of two cells", x.pieces(2), 4);
         due(check, x, 2, 0, 0, "9 0 0");
         due(check, x, 2, 7, 7, "9 0 0");
+        due(check, x, 2, 0, 8, "9 0 0");
+        due(check, x, 2, 7, 15, "9 0 0");
     }
 
     /** The corners have tones 0, 80, 160 and 40: no other way to cut the cell gives these. */
@@ -148,12 +152,22 @@ public final class BoundaryTrianglesTest {
             x.patch(n, corners[i], 8.0, 0.0);
             x.patch(n, corners[(i + 1) % 4], 0.0, 8.0);
             due(check, x, n, 2, 2, "9 0 0");
+            due(check, x, n, 0, 3, "9 0 0");
+            due(check, x, n, 3, 0, "9 0 0");
             due(check, x, n, 5, 5, NO);
         }
-        int bent = Fixtures.squarePatch(x, 1.0);
-        Fixtures.colours(x, bent, 9, 9, 9, 9);
-        check.same("the last point", x.patch(bent, 11, 50.0, 50.0), 1);
-        due(check, x, bent, 5, 5, "9 0 0");
+        bentAtFirst(check, x);
+    }
+
+    /** With all but the corners at (0.0, 0.0) the middle of the patch is at (-2.0, -2.0). */
+    private static void bentAtFirst(Check check, ShadeRows x) {
+        int n = Fixtures.mesh(x, 6, 2.0);
+        Fixtures.colours(x, n, 9, 9, 9, 9);
+        x.patch(n, 3, 8.0, 0.0);
+        x.patch(n, 6, 8.0, 8.0);
+        x.patch(n, 9, 0.0, 8.0);
+        due(check, x, n, -2, -2, "9 0 0");
+        due(check, x, n, -3, -3, NO);
     }
 
     private static void fourColours(Check check) {
@@ -275,6 +289,10 @@ public final class BoundaryTrianglesTest {
         Fixtures.vertices(x, 5, 9, 0.5, 0.5, Math.nextDown(8.5), 0.5, 0.5, Math.nextDown(8.5));
         due(check, x, 5, 4, 4, NO);
         due(check, x, 5, 4, 3, "9 0 0");
+        Fixtures.mesh(x, 4, 0.0);
+        Fixtures.vertices(x, 6, 9, Math.nextDown(8.5), 0.5, 0.5, Math.nextDown(8.5), 0.5, 0.5);
+        due(check, x, 6, 4, 4, NO);
+        due(check, x, 6, 4, 3, "9 0 0");
     }
 
     /** Half of the way from 0 to an odd tone goes up, less goes down; 255 stays 255. */
